@@ -98,7 +98,7 @@ public final class DustVote {
         }
         switch (what) {
             case 0:
-                return now.dust[street];
+                return now.dustIn(street);
             case 1:
                 return now.isDeep(street) ? 1 : 0;
             case 2:
@@ -114,11 +114,11 @@ public final class DustVote {
         }
         switch (what) {
             case 0:
-                return now.place[broom];
+                return now.placeOf(broom);
             case 1:
-                return told.strength[broom];
+                return told.strengthOf(broom);
             case 2:
-                return told.kind[broom];
+                return told.kindOf(broom);
             case 3:
                 return now.isBent(broom) ? 1 : 0;
             case 4:
@@ -145,7 +145,7 @@ public final class DustVote {
         }
         acts.push(now);
         now.step(broom, side);
-        return now.place[broom];
+        return now.placeOf(broom);
     }
 
     public int vote() {
@@ -170,7 +170,7 @@ public final class DustVote {
         if (!isStreet(street)) {
             return UNKNOWN;
         }
-        int had = now.dust[street];
+        int had = now.dustIn(street);
         if (had == 0) {
             return STATE;
         }
@@ -196,7 +196,7 @@ public final class DustVote {
         if (!within(n, 0, MOST_DAWNS_TOLD)) {
             return OUTSIDE;
         }
-        return behind(n, EVERYBODY).dust[street];
+        return behind(n, EVERYBODY).dustIn(street);
     }
 
     public int knees(int n) {
@@ -232,8 +232,10 @@ public final class DustVote {
         int least = STREETS * MOST_DUST + 1;
         for (int street = 0; street < STREETS; street++) {
             Moment then = fromNow();
-            then.place[broom] = street;
-            then.passDawns(n, EVERYBODY);
+            then.goTo(broom, street);
+            for (int i = 0; i < n; i++) {
+                then.passDawn(EVERYBODY, 1);
+            }
             if (then.allDust() < least) {
                 which = street;
                 least = then.allDust();
@@ -333,12 +335,12 @@ public final class DustVote {
         if (one == other || !within(what, 0, 1)) {
             return OUTSIDE;
         }
-        int others = EVERYBODY & ~(1 << one | 1 << other);
+        int others = EVERYBODY & ~((1 << one) | (1 << other));
         int many = 0;
         int first = NONE;
         for (int mine = 0; mine <= 1; mine++) {
             for (int theirs = 0; theirs <= 1; theirs++) {
-                if (isAtRest(one, other, others | mine << one | theirs << other)) {
+                if (isAtRest(one, other, others | (mine << one) | (theirs << other))) {
                     many++;
                     first = first == NONE ? 10 * mine + theirs : first;
                 }
@@ -441,7 +443,7 @@ public final class DustVote {
     }
 
     private static boolean isStreet(int street) {
-        return within(street, 0, STREETS - 1);
+        return street >= 0 && street < STREETS;
     }
 
     /** The one moment to try things on: it is made anew by each call of this. */
@@ -452,7 +454,9 @@ public final class DustVote {
 
     private Moment behind(int n, int workers) {
         Moment then = fromNow();
-        then.passDawns(n, workers);
+        for (int i = 0; i < n; i++) {
+            then.passDawn(workers, 1);
+        }
         return then;
     }
 
@@ -474,7 +478,7 @@ public final class DustVote {
             return tryStep(then, middle, last);
         }
         if (verb == 5) {
-            return isStreet(middle) && then.dust[middle] >= last;
+            return isStreet(middle) && then.dustIn(middle) >= last;
         }
         if (middle != 0) {
             return false;
@@ -522,7 +526,7 @@ public final class DustVote {
     }
 
     private boolean tryEmpty(Moment then, int street) {
-        if (!isStreet(street) || then.dust[street] == 0) {
+        if (!isStreet(street) || then.dustIn(street) == 0) {
             return false;
         }
         then.empty(street);
@@ -548,20 +552,20 @@ public final class DustVote {
     }
 
     private boolean isAtRest(int one, int other, int workers) {
-        return gain(one, workers) >= gain(one, workers ^ 1 << one)
-            && gain(other, workers) >= gain(other, workers ^ 1 << other);
+        return gain(one, workers) >= gain(one, workers ^ (1 << one))
+            && gain(other, workers) >= gain(other, workers ^ (1 << other));
     }
 
     private int gain(int broom, int workers) {
         Moment then = behind(DAWNS_OF_A_REST, workers);
-        int cost = (workers >> broom & 1) == 1 ? 4 : 0;
-        return 20 - then.dust[then.place[broom]] - cost;
+        int cost = ((workers >> broom) & 1) == 1 ? 4 : 0;
+        return 20 - then.dustIn(then.placeOf(broom)) - cost;
     }
 
     private boolean isDeepBehind(int street, int n, int doubled) {
         Moment then = fromNow();
         for (int i = 0; i < n; i++) {
-            then.passDawn(EVERYBODY, 1 + (doubled >> i & 1));
+            then.passDawn(EVERYBODY, 1 + ((doubled >> i) & 1));
         }
         return then.isDeep(street);
     }
@@ -689,6 +693,14 @@ public final class DustVote {
             return broom >= 0 && broom < brooms && broom < MOST_BROOMS;
         }
 
+        int strengthOf(int broom) {
+            return broom >= 0 && broom < MOST_BROOMS ? strength[broom] : 0;
+        }
+
+        int kindOf(int broom) {
+            return broom >= 0 && broom < MOST_BROOMS ? kind[broom] : PLAIN;
+        }
+
         /** Reads a text that has no fault. */
         void read(Script script) {
             for (int street = 0; street < STREETS; street++) {
@@ -780,6 +792,14 @@ public final class DustVote {
             dawns = cells[rest + 2];
         }
 
+        int dustIn(int street) {
+            return isStreet(street) ? dust[street] : 0;
+        }
+
+        int placeOf(int broom) {
+            return told.hasBroom(broom) ? place[broom] : 0;
+        }
+
         int allDust() {
             int sum = 0;
             for (int street = 0; street < STREETS; street++) {
@@ -789,7 +809,7 @@ public final class DustVote {
         }
 
         boolean isDeep(int street) {
-            return dust[street] >= KNEE_DEEP;
+            return dustIn(street) >= KNEE_DEEP;
         }
 
         int deepStreets() {
@@ -812,17 +832,17 @@ public final class DustVote {
         int broomsIn(int street) {
             int bits = 0;
             for (int broom = 0; broom < told.brooms; broom++) {
-                bits |= place[broom] == street ? 1 << broom : 0;
+                bits |= placeOf(broom) == street ? 1 << broom : 0;
             }
             return bits;
         }
 
         boolean isBent(int broom) {
-            return (bent >> broom & 1) == 1;
+            return ((bent >> broom) & 1) == 1;
         }
 
         int worksAs(int broom) {
-            int kind = told.kind[broom];
+            int kind = told.kindOf(broom);
             if (kind == BESOM || kind == PLAIN) {
                 return kind;
             }
@@ -832,8 +852,15 @@ public final class DustVote {
             return kind == STRIKER ? STRIKER : AS_NOTHING;
         }
 
+        void goTo(int broom, int street) {
+            if (told.hasBroom(broom)) {
+                place[broom] = street;
+            }
+        }
+
         void step(int broom, int side) {
-            place[broom] = side == 0 ? leftOf(place[broom]) : rightOf(place[broom]);
+            int street = placeOf(broom);
+            goTo(broom, side == 0 ? leftOf(street) : rightOf(street));
         }
 
         void turnVote() {
@@ -845,23 +872,16 @@ public final class DustVote {
         }
 
         void empty(int street) {
-            dust[street] = 0;
-        }
-
-        void passDawns(int n, int workers) {
-            for (int i = 0; i < n; i++) {
-                passDawn(workers, 1);
+            if (isStreet(street)) {
+                dust[street] = 0;
             }
         }
 
         /** Brooms that are not among the workers (bits) do nothing; the fall comes so many times. */
         void passDawn(int workers, int times) {
-            if (told.falls > 0) {
-                int fall = dawns % told.falls;
-                pour(told.fallStreet[fall], told.fallDust[fall] * times);
-            }
+            comeDown(times);
             for (int broom = 0; broom < told.brooms; broom++) {
-                if ((workers >> broom & 1) == 1) {
+                if (((workers >> broom) & 1) == 1) {
                     work(broom);
                 }
             }
@@ -869,9 +889,17 @@ public final class DustVote {
             dawns++;
         }
 
+        private void comeDown(int times) {
+            int falls = told.falls;
+            if (falls > 0 && falls <= MOST_FALLS && dawns >= 0) {
+                int fall = dawns % falls;
+                pour(told.fallStreet[fall], told.fallDust[fall] * times);
+            }
+        }
+
         private void work(int broom) {
-            int street = place[broom];
-            int strength = told.strength[broom];
+            int street = placeOf(broom);
+            int strength = told.strengthOf(broom);
             switch (worksAs(broom)) {
                 case PLAIN:
                     sweep(street, strength);
@@ -890,10 +918,15 @@ public final class DustVote {
         }
 
         private void pour(int street, int more) {
-            dust[street] = Math.min(MOST_DUST, dust[street] + more);
+            if (isStreet(street)) {
+                dust[street] = Math.min(MOST_DUST, dust[street] + more);
+            }
         }
 
         private int sweep(int street, int strength) {
+            if (!isStreet(street)) {
+                return 0;
+            }
             int gone = Math.min(strength, dust[street]);
             dust[street] -= gone;
             return gone;
@@ -902,7 +935,7 @@ public final class DustVote {
         /** All at once: who is knee-deep is marked before any dust goes over. */
         private void spread() {
             for (int street = 0; street < STREETS; street++) {
-                deep[street] = isDeep(street);
+                deep[street] = dust[street] >= KNEE_DEEP;
             }
             for (int street = 0; street < STREETS; street++) {
                 if (deep[street]) {
@@ -914,11 +947,11 @@ public final class DustVote {
         }
 
         private static int leftOf(int street) {
-            return street + STREETS - 1 & STREETS - 1;
+            return (street + STREETS - 1) & (STREETS - 1);
         }
 
         private static int rightOf(int street) {
-            return street + 1 & STREETS - 1;
+            return (street + 1) & (STREETS - 1);
         }
     }
 
@@ -933,8 +966,12 @@ public final class DustVote {
             size = 0;
         }
 
+        private static int spotOf(int number) {
+            return (number % MOST_ACTS) * CELLS;
+        }
+
         void push(Moment moment) {
-            moment.save(cells, (first + size) % MOST_ACTS * CELLS);
+            moment.save(cells, spotOf(first + size));
             if (size < MOST_ACTS) {
                 size++;
             } else {
@@ -945,7 +982,7 @@ public final class DustVote {
         void pop(Moment moment) {
             if (size > 0) {
                 size--;
-                moment.load(cells, (first + size) % MOST_ACTS * CELLS);
+                moment.load(cells, spotOf(first + size));
             }
         }
     }

@@ -174,6 +174,7 @@ public final class ActsTest {
         DUE.is("13: broom(0, 0) behind 20", x.broom(0, 0), 4);
         for (int left = 13; left >= 0; left--) {
             DUE.is("13: undo() of fourteen", x.undo(), left);
+            DUE.is("13: broom(0, 0) with " + left + " left", x.broom(0, 0), (6 + left) % 8);
         }
         DUE.is("13: undo(), forgotten", x.undo(), DustVote.STATE);
         DUE.is("13: broom(0, 0) at the seventh", x.broom(0, 0), 6);

@@ -74,6 +74,13 @@ public final class CityTest {
         faultOf("B00000000N010N010N010N010N010F00N", 32);
         faultOf("B00000000F00F00F00F00F00N010F", 28);
         faultOf("B00000000N010N010N010N010N010F00", none);
+        DustVote again = Due.written(MOST);
+        for (int length = 0; length < 44; length++) {
+            Due.rewrite(again, MOST.substring(0, length));
+            boolean ends = length == 9 || length > 9 && length <= 29 && length % 4 == 1 || length > 29 && length % 3 == 2;
+            DUE.is("4: fault(), cut at " + length + ", wiped letters are gone", again.fault(), ends ? none : length);
+            again = length % 8 == 0 ? Due.written(MOST) : again;
+        }
     }
 
     private static void cities() {
@@ -109,7 +116,10 @@ public final class CityTest {
         DUE.is("5: undo(), none", x.undo(), DustVote.STATE);
         DUE.is("5: the seed stays", x.seed(0L), 77);
         x.dawn();
+        x.vote();
         DUE.is("5: the text stays", x.city(), 10);
+        DUE.is("5: count(8), the row is empty", x.count(8), 0);
+        DUE.is("5: undo(), the row is empty", x.undo(), DustVote.STATE);
         DUE.is("5: dust as told again", x.count(4), 10);
     }
 

@@ -93,6 +93,7 @@ public final class DawnsTest {
         bestOf("B04040000N593", 0, 9, 0, 8);
         bestOf("B10000000N550N510F55", 1, 2, 0, 0);
         bestOf("B00000007N191N090", 0, 9, 7, 0);
+        bestOf("B99999999F09N393", 0, 9, 0, 72 + 81);
         DustVote x = Due.city("B00900000N590");
         DUE.is("17: best(1, 0, 2)", x.best(1, 0, 2), DustVote.UNKNOWN);
         DUE.is("17: best(-1, 1, 0)", x.best(-1, 1, 0), DustVote.UNKNOWN);
@@ -119,6 +120,9 @@ public final class DawnsTest {
         bendsOf("B90000000F04N413N013N013", 1, 6);
         bendsOf("B90000000F04N413N013N013N023", 1, 8);
         bendsOf("B90000000F05N013N013N013", 1, 7);
+        bendsOf("B90000000F07N013N013N013N013N013", 1, 31);
+        bendsOf("B90000000F06N013N013N013N413N013", 1, 23);
+        bendsOf("B90000000F08N013N013N013N013N013", 1, DustVote.NONE);
         bendsOf("B90000000F09N013", 1, DustVote.NONE);
         bendsOf("B90000000F00F03N013", 1, 0);
         bendsOf("B90000000F00F03N013", 2, 1);
