@@ -16,6 +16,14 @@ final class Due {
         }
     }
 
+    void is(String call, String got, String want) {
+        asked++;
+        if (!got.equals(want)) {
+            wrong++;
+            System.out.println(test + ": " + call + " answered '" + got + "', due is '" + want + "'");
+        }
+    }
+
     void end() {
         System.out.println(test + ": " + asked + " answers, " + wrong + " not as due");
         if (wrong != 0) {
@@ -61,5 +69,40 @@ final class Due {
         long seed = x.seed(0L);
         x.seed(seed);
         return all.append(seed).append(' ').append(x.whose(0)).append(' ').append(x.fault()).toString();
+    }
+
+    /** Dust, street by street. */
+    static String dusts(DustVote x) {
+        StringBuilder row = new StringBuilder();
+        for (int street = 0; street < 8; street++) {
+            row.append(street == 0 ? "" : " ").append(x.street(street, 0));
+        }
+        return row.toString();
+    }
+
+    private static String moment(DustVote x) {
+        StringBuilder row = new StringBuilder(dusts(x));
+        for (int broom = 0; broom < x.count(1); broom++) {
+            row.append(',').append(x.broom(broom, 0));
+        }
+        return row + " d" + x.count(3) + " v" + x.count(6) + " b" + x.count(7) + " a" + x.count(8) + '\n';
+    }
+
+    /**
+     * What is hidden too: the row of acts (by undoing it), what was kept (by going on from it), the text
+     * (by making it the city). The object is spent by it: it is for two that must be alike.
+     */
+    static String spent(DustVote x) {
+        StringBuilder all = new StringBuilder(seen(x)).append(' ').append(x.whose(1)).append('\n');
+        for (int street = 0; street < 8; street++) {
+            all.append(x.dust(street, 5)).append(' ');
+        }
+        for (int act = 0; act <= 14; act++) {
+            all.append(x.undo()).append(' ').append(moment(x));
+        }
+        for (int slot = 0; slot <= 1; slot++) {
+            all.append(x.again(slot)).append(' ').append(moment(x));
+        }
+        return all.append(x.fault()).append(' ').append(x.city()).append(' ').append(seen(x)).toString();
     }
 }
