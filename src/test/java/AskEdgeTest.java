@@ -10,6 +10,7 @@ public final class AskEdgeTest {
         kneeIn0To30();
         kneeOfLikeOnesTheLeast();
         bestOfLikeOnesTheLeast();
+        bestIsOneOfTheEight();
         bestFromNowOn();
         bestBehind1To9Dawns();
         bestHowMuch();
@@ -159,6 +160,12 @@ public final class AskEdgeTest {
         bestOf("B10000003N462", 0, 1, 0, 0);
         bestOf("B40000006N462", 0, 1, 7, 1);
         bestOf("B30000001N462", 0, 1, 0, 0);
+    }
+
+    /** A striker that is in the way of four besoms wherever it is: 13 would be left without it, 16 with it. */
+    private static void bestIsOneOfTheEight() {
+        bestOf("B96779949N071N582N362N752N162F10", 0, 1, 0, 16);
+        DUE.is("8: dawn() without it", Due.city("B96779949N582N362N752N162F10").dawn(), 13);
     }
 
     /** It is in that street from the first dawn on, and in no other. */

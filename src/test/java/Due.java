@@ -61,7 +61,8 @@ final class Due {
         for (int street = 0; street < 8; street++) {
             all.append(x.street(street, 0)).append(' ');
         }
-        for (int broom = 0; broom < x.count(1); broom++) {
+        int brooms = x.count(1);
+        for (int broom = 0; broom < brooms; broom++) {
             for (int what = 0; what <= 4; what++) {
                 all.append(x.broom(broom, what)).append(' ');
             }
@@ -82,7 +83,8 @@ final class Due {
 
     private static String moment(DustVote x) {
         StringBuilder row = new StringBuilder(dusts(x));
-        for (int broom = 0; broom < x.count(1); broom++) {
+        int brooms = x.count(1);
+        for (int broom = 0; broom < brooms; broom++) {
             row.append(',').append(x.broom(broom, 0));
         }
         return row + " d" + x.count(3) + " v" + x.count(6) + " b" + x.count(7) + " a" + x.count(8) + '\n';
@@ -90,7 +92,8 @@ final class Due {
 
     /**
      * What is hidden too: the row of acts (by undoing it), what was kept (by going on from it), the text
-     * (by making it the city). The object is spent by it: it is for two that must be alike.
+     * (by making it the city). The object is spent by it: it is for two that must be alike. These are some 430
+     * calls, so that not many more than 80 may be made of it before: 512 is what an object is good for.
      */
     static String spent(DustVote x) {
         StringBuilder all = new StringBuilder(seen(x)).append(' ').append(x.whose(1)).append('\n');
