@@ -642,8 +642,7 @@ public final class DustVote {
         private int firstFaultOfParts() {
             int brooms = 0;
             int falls = 0;
-            int size = 0;
-            for (int at = FIRST_PART; at < length; at += size) {
+            for (int at = FIRST_PART; at < length; at += letterAt(at) == 'N' ? BROOM_LETTERS : FALL_LETTERS) {
                 boolean isBroom = letterAt(at) == 'N' && brooms < MOST_BROOMS;
                 boolean isFall = letterAt(at) == 'F' && falls < MOST_FALLS;
                 if (!isBroom && !isFall) {
@@ -655,7 +654,6 @@ public final class DustVote {
                 }
                 brooms += isBroom ? 1 : 0;
                 falls += isFall ? 1 : 0;
-                size = isBroom ? BROOM_LETTERS : FALL_LETTERS;
             }
             return NONE;
         }
@@ -708,14 +706,14 @@ public final class DustVote {
             }
             brooms = 0;
             falls = 0;
-            int size = 0;
-            for (int at = Script.FIRST_PART; at < script.length; at += size) {
+            int at = Script.FIRST_PART;
+            while (at < script.length) {
                 if (script.letterAt(at) == 'N') {
                     addBroom(script, at);
-                    size = Script.BROOM_LETTERS;
+                    at += Script.BROOM_LETTERS;
                 } else {
                     addFall(script, at);
-                    size = Script.FALL_LETTERS;
+                    at += Script.FALL_LETTERS;
                 }
             }
         }

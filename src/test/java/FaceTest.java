@@ -30,7 +30,9 @@ public final class FaceTest {
             yes(inside + " is static", Modifier.isStatic(inside.getModifiers()) || inside.isRecord() || inside.isEnum());
             yes(inside + " is not public", !Modifier.isPublic(inside.getModifiers()) && !Modifier.isProtected(inside.getModifiers()));
             noSameNames(inside, names);
+            fields(inside);
         }
+        fields(face);
         yes("at most some twelve classes", face.getDeclaredClasses().length <= 12);
         DUE.end();
     }
@@ -66,6 +68,17 @@ public final class FaceTest {
         }
     }
 
+    private static void fields(Class<?> holder) {
+        int many = 0;
+        for (Field field : holder.getDeclaredFields()) {
+            boolean isStatic = Modifier.isStatic(field.getModifiers());
+            many += isStatic ? 0 : 1;
+            yes(field + ", if static, is a constant number", !isStatic
+                || Modifier.isFinal(field.getModifiers()) && field.getType().isPrimitive());
+        }
+        yes(holder + " has at most some twenty fields, not " + many, many <= 20);
+    }
+
     private static void constants(Class<?> face) throws Exception {
         Set<String> seen = new TreeSet<>();
         for (Field field : face.getDeclaredFields()) {
@@ -73,7 +86,6 @@ public final class FaceTest {
                 seen.add(field.getName() + "=" + field.getInt(null));
                 yes(field + " is a public constant", Modifier.isPublic(field.getModifiers()) && Modifier.isFinal(field.getModifiers()));
             }
-            yes(field + ", if static, is final", !Modifier.isStatic(field.getModifiers()) || Modifier.isFinal(field.getModifiers()));
         }
         yes("the constants, not " + seen, seen.equals(new TreeSet<>(Arrays.asList(CONSTANTS))));
     }
